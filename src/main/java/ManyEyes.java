@@ -1175,8 +1175,8 @@ public final class ManyEyes {
                 return size > other.size;
             }
             for (int k = size - 1; k >= 0; k--) {
-                if (limbAt(k) != other.limbAt(k)) {
-                    return limbAt(k) > other.limbAt(k);
+                if (limbs[k] != other.limbs[k]) {
+                    return limbs[k] > other.limbs[k];
                 }
             }
             return false;
@@ -1188,14 +1188,14 @@ public final class ManyEyes {
 
         private void addMultiple(Big right, int by, int from) {
             long carry = 0;
-            int reach = Math.min(from + right.size, limbs.length);
-            for (int k = from; k < reach; k++) {
-                long at = (long) by * right.limbAt(k - from) + limbs[k] + carry;
-                limbs[k] = (int) (at & LIMB);
+            int reach = Math.min(right.size, limbs.length - from);
+            for (int k = 0; k < reach; k++) {
+                long at = (long) by * right.limbs[k] + limbs[from + k] + carry;
+                limbs[from + k] = (int) (at & LIMB);
                 carry = at >>> BITS;
             }
-            if (reach < size) {
-                limbs[reach] = (int) carry;
+            if (from + reach < size) {
+                limbs[from + reach] = (int) carry;
             }
         }
 

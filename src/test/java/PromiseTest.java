@@ -3,6 +3,15 @@ public final class PromiseTest {
     private static final int NONE = ManyEyes.NONE;
     private static final Check check = new Check();
 
+    /** Of five judges (one a text) the answers to 40 things: in RECKONING, STEP 30 still changes some. */
+    static final String[] RESTLESS = {
+        ".1..33.11.1...01..33201.33....311231.33.",
+        "31.000222.00..12.20.2..0.0010.1.1.30.211",
+        "2...00..12.3.23.3.22.....0.1.1.211.01202",
+        "03.0.32..12232.0.3....2211.3.0..332..2.3",
+        ".2010.3.03.0.210020.32...0.202.....3.1..",
+    };
+
     private PromiseTest() {
     }
 
@@ -131,6 +140,9 @@ public final class PromiseTest {
         x.show(6, 0);
         due("row over a judge", x.row(6, 1, 1), 1);
         due("holds", x.holds(6), 101);
+        due("set in it", x.set(6, 0, 4), 1);
+        due("row over a row", x.row(6, 1, 1), 1);
+        due("the first is 0 again", x.element(6, 0), 0);
         x = made(2, 1, 1);
         x.row(0, 1, 3);
         x.set(0, 2, 8);
@@ -255,6 +267,10 @@ public final class PromiseTest {
         due("nothing", x.show(0, NONE), 0);
         due("holds", x.holds(0), NONE);
         due("nothing again", x.show(0, NONE), 0);
+        x.row(0, 0, 3);
+        due("nothing over a row", x.show(0, NONE), 0);
+        due("holds", x.holds(0), NONE);
+        due("set in it", x.set(0, 0, 1), -3);
         x.leave(1);
         due("one that has left", x.show(7, 1), 1);
         due("holds", x.holds(7), 1);
@@ -263,7 +279,7 @@ public final class PromiseTest {
         due("judge 2", x.show(7, 2), -1);
         due("judge -2", x.show(7, -2), -1);
         due("holds still", x.holds(7), 1);
-        refusalsDue(x, 4, 0, 0, 0, 0, 0, 0);
+        refusalsDue(x, 4, 0, 1, 0, 0, 0, 0);
     }
 
     private static void holds() {
@@ -596,6 +612,43 @@ public final class PromiseTest {
         due("top stays", x.top(0, 0, 1, 1), 2);
         x.reckon(true);
         due("top is as at first", x.top(0, 0, 1, 1), 1);
+        x.answer(0, 2, 0, 0, 9);
+        x.know(2, 0, 0);
+        x.reckon(true);
+        due("top of 0 as 0", x.top(0, 0, 0, 0), 2);
+        x.know(2, 0, NONE);
+        x.reckon(true);
+        due("as at first", x.top(0, 0, 0, 0), 1);
+        thirtySteps();
+        oneAlone();
+    }
+
+    private static void thirtySteps() {
+        ManyEyes x = made(4, 40, RESTLESS.length);
+        for (int j = 0; j < RESTLESS.length; j++) {
+            for (int t = 0; t < 40; t++) {
+                if (RESTLESS[j].charAt(t) != '.') {
+                    x.rest(j);
+                    x.answer(j, t, 0, RESTLESS[j].charAt(t) - '0', 9);
+                }
+            }
+        }
+        due("30 steps at most", x.reckon(false), 30);
+        due("the last one still changes", x.changed(29) > 0, true);
+        due("none behind it", x.changed(30), NONE);
+        due("and again", x.reckon(false), 30);
+    }
+
+    /** A step that changes one case alone isn't the last one. */
+    private static void oneAlone() {
+        ManyEyes x = made(2, 3, 1);
+        x.answer(0, 1, 0, 1, 9);
+        due("one case", x.reckon(false), 2);
+        due("step 0", x.changed(0), 1);
+        due("step 1", x.changed(1), 0);
+        due("agreed on the least", x.agreed(1, 0), 0);
+        due("top", x.top(0, 0, 1, 0), 2);
+        due("bottom", x.bottom(0, 0, 0), 3);
     }
 
     private static void changed() {
@@ -742,23 +795,42 @@ public final class PromiseTest {
         exactProducts();
     }
 
-    /** 24 judges who were right in 8 of 8 known cases of each truth, but not alike: (9/10)^24 to (1/10)^24. */
+    /** Odds of 3^23 to 1 of judges who were right in 4 of 4, three judges a batch of things. */
     private static void exactProducts() {
-        ManyEyes x = made(2, 17, 24);
-        for (int t = 0; t < 16; t++) {
-            x.know(t, 0, t / 8);
+        ManyEyes x = made(2, 36, 24);
+        for (int t = 0; t < 32; t++) {
+            x.know(t, 0, t % 2);
         }
         for (int j = 0; j < 24; j++) {
-            x.answer(j, 0, 0, j % 2, 9);
-            x.answer(j, 8, 0, j % 2, 9);
+            for (int t = j % 8 * 4; t < j % 8 * 4 + 4; t++) {
+                x.answer(j, t, 0, t % 2, 9);
+            }
         }
         x.reckon(true);
+        due("top", x.top(0, 0, 1, 1), 3);
+        due("bottom", x.bottom(23, 0, 1), 4);
         for (int j = 0; j < 24; j++) {
-            x.answer(j, 16, 0, j % 2, 9);
+            x.answer(j, 32, 0, 1, 9);
+            if (j < 8) {
+                x.answer(j, 33, 0, j % 2, 9);
+            }
         }
-        due("like ones", x.share(16, 0, 0), 500000);
-        due("looks of all", x.looks(16, 0), 24);
-        due("the least leads", x.leading(16, 0), 0);
+        x.bar(0, 1000);
+        x.bar(1, 24);
+        x.leave(22);
+        due("looks", x.looks(32, 0), 23);
+        due("share of 1", x.share(32, 0, 1), 999999);
+        due("share of 0", x.share(32, 0, 0), 0);
+        due("leading", x.leading(32, 0), 1);
+        due("below 1000 thousandths", x.is(1, 32, 0), false);
+        due("4 to 4", x.share(33, 0, 0), 500000);
+        due("the least leads", x.leading(33, 0), 0);
+        x.answer(0, 34, 0, 1, 9);
+        due("3/4", x.share(34, 0, 1), 750000);
+        x.bar(0, 750);
+        due("750 thousandths", x.is(1, 34, 0), true);
+        x.bar(0, 751);
+        due("not 751", x.is(1, 34, 0), false);
     }
 
     private static void leading() {
@@ -1031,6 +1103,34 @@ public final class PromiseTest {
         due("its other child", x.next(1), 12);
         x.answer(1, 1, 2, 0, 1);
         due("none", x.next(1), NONE);
+        nextOfTwoChildren();
+    }
+
+    /** Two judges who are good at questions 1 and 2; one has answered question 1 of thing 1. */
+    private static void nextOfTwoChildren() {
+        ManyEyes x = made(2, 4, 2);
+        x.question(2, 0, 0);
+        x.question(2, 0, 0);
+        for (int t = 1; t < 4; t++) {
+            x.know(t, 0, 0);
+        }
+        for (int q = 1; q < 3; q++) {
+            for (int t = 2; t < 4; t++) {
+                x.know(t, q, t - 2);
+                x.answer(0, t, q, t - 2, 9);
+                x.answer(1, t, q, t - 2, 9);
+            }
+        }
+        x.reckon(true);
+        due("gain at question 0", x.gain(1, 0, 0), 0);
+        due("gain at question 1", x.gain(1, 1, 1), 166666);
+        due("gain at question 2", x.gain(1, 1, 2), 166666);
+        due("of like ones the least question", x.next(1), 11);
+        x.answer(0, 1, 1, 0, 9);
+        due("gain at question 1 then", x.gain(1, 1, 1), 0);
+        due("the greater one of a thing", x.next(1), 12);
+        x.answer(1, 1, 2, 0, 9);
+        due("of like ones the least thing", x.next(1), 0);
     }
 
     private static void gain() {
@@ -1069,6 +1169,7 @@ public final class PromiseTest {
         due("of 1", x.total(0, 1), 2071);
         x.question(3, 0, 0);
         due("children of two", x.total(1, 2), 666);
+        due("of 0 with children open", x.total(0, 0), 2928);
         x.question(2, 1, 0);
         due("none is open", x.total(2, 0), 0);
         due("b 3", x.total(1, 3), NONE);
