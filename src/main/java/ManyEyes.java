@@ -707,7 +707,6 @@ public final class ManyEyes {
     private void surveyThing(int thing) {
         for (int q = 0; q < questionCount; q++) {
             survey.open[q] = q == 0 || survey.leadsTo(questions[q].parent, questions[q].wanted);
-            survey.ended[q] = false;
             if (survey.open[q]) {
                 weigh(thing, q);
                 survey.ended[q] = hasEnded(caseOf(thing, q));

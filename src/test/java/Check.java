@@ -21,6 +21,10 @@ final class Check {
         due(call, got ? 1 : 0, want ? 1 : 0);
     }
 
+    int count() {
+        return passed + failed;
+    }
+
     boolean isClean() {
         return failed == 0;
     }

@@ -62,30 +62,6 @@ public final class PromiseTest {
         check.due(call, got, want);
     }
 
-    /** A room with things, judges, and one question of so many answers. */
-    private static ManyEyes made(int answers, int things, int judges) {
-        ManyEyes x = new ManyEyes();
-        x.question(answers, NONE, 0);
-        x.things(things);
-        for (int j = 0; j < judges; j++) {
-            x.judge();
-        }
-        return x;
-    }
-
-    /** Fair answers of a judge to question 0 of the things from 0 on. */
-    private static void give(ManyEyes x, int judge, int... answers) {
-        for (int t = 0; t < answers.length; t++) {
-            x.answer(judge, t, 0, answers[t], 50);
-        }
-    }
-
-    private static void put(ManyEyes x, int s, int from, long... values) {
-        for (int k = 0; k < values.length; k++) {
-            x.set(s, from + k, values[k]);
-        }
-    }
-
     private static void refusalsDue(ManyEyes x, int... want) {
         for (int r = 0; r < 7; r++) {
             due("refusals " + (-1 - r), x.status(11 + r), want[r]);
@@ -120,7 +96,7 @@ public final class PromiseTest {
 
     private static void row() {
         check.about("promise 2");
-        ManyEyes x = made(2, 1, 1);
+        ManyEyes x = Rooms.made(2, 1, 1);
         for (int sort = 0; sort < 4; sort++) {
             due("row(" + sort + ")", x.row(sort, sort, 10), 1);
             due("holds", x.holds(sort), 100 + sort);
@@ -143,7 +119,7 @@ public final class PromiseTest {
         due("set in it", x.set(6, 0, 4), 1);
         due("row over a row", x.row(6, 1, 1), 1);
         due("the first is 0 again", x.element(6, 0), 0);
-        x = made(2, 1, 1);
+        x = Rooms.made(2, 1, 1);
         x.row(0, 1, 3);
         x.set(0, 2, 8);
         due("row(-1, ..)", x.row(-1, -1, -1), -1);
@@ -161,7 +137,7 @@ public final class PromiseTest {
 
     private static void set() {
         check.about("promise 3");
-        ManyEyes x = made(2, 1, 1);
+        ManyEyes x = Rooms.made(2, 1, 1);
         for (int sort = 0; sort < 4; sort++) {
             x.row(sort, sort, 2);
         }
@@ -195,15 +171,15 @@ public final class PromiseTest {
 
     private static void copy() {
         check.about("promise 4");
-        ManyEyes x = made(2, 1, 1);
+        ManyEyes x = Rooms.made(2, 1, 1);
         x.row(0, 2, 5);
-        put(x, 0, 0, 1, 2, 3, 4, 5);
+        Rooms.put(x, 0, 0, 1, 2, 3, 4, 5);
         x.row(1, 2, 3);
         due("copy", x.copy(0, 1, 2, 1, 2), 1);
         rowDue(x, 1, 0, 3, 4);
         due("copy on the right", x.copy(0, 0, 0, 1, 4), 1);
         rowDue(x, 0, 1, 1, 2, 3, 4);
-        put(x, 0, 0, 1, 2, 3, 4, 5);
+        Rooms.put(x, 0, 0, 1, 2, 3, 4, 5);
         due("copy on the left", x.copy(0, 0, 1, 0, 4), 1);
         rowDue(x, 0, 2, 3, 4, 5, 5);
         due("none at the ends", x.copy(0, 1, 5, 3, 0), 1);
@@ -242,9 +218,9 @@ public final class PromiseTest {
 
     private static void element() {
         check.about("promise 5");
-        ManyEyes x = made(2, 1, 1);
+        ManyEyes x = Rooms.made(2, 1, 1);
         x.row(0, 3, 3);
-        put(x, 0, 0, 7, 8, 9);
+        Rooms.put(x, 0, 0, 7, 8, 9);
         rowDue(x, 0, 7, 8, 9);
         due("-1", x.element(0, -1), 0);
         due("3", x.element(0, 3), 0);
@@ -260,7 +236,7 @@ public final class PromiseTest {
 
     private static void show() {
         check.about("promise 6");
-        ManyEyes x = made(2, 1, 2);
+        ManyEyes x = Rooms.made(2, 1, 2);
         x.row(0, 0, 3);
         due("over a row", x.show(0, 1), 1);
         due("holds", x.holds(0), 1);
@@ -284,7 +260,7 @@ public final class PromiseTest {
 
     private static void holds() {
         check.about("promise 7");
-        ManyEyes x = made(2, 1, 3);
+        ManyEyes x = Rooms.made(2, 1, 3);
         due("nothing", x.holds(3), NONE);
         due("shelf -1", x.holds(-1), NONE);
         due("shelf 8", x.holds(8), NONE);
@@ -301,12 +277,12 @@ public final class PromiseTest {
 
     private static void countsIn() {
         check.about("promise 8");
-        ManyEyes x = made(2, 8, 2);
+        ManyEyes x = Rooms.made(2, 8, 2);
         x.question(3, 0, 1);
-        give(x, 0, 0, 1, 0, 1, 0, 1);
+        Rooms.give(x, 0, 0, 1, 0, 1, 0, 1);
         x.answer(0, 6, 0, 0, 1);
         x.answer(0, 6, 1, 2, 9);
-        give(x, 1, 0, 1, 0, 1, 0);
+        Rooms.give(x, 1, 0, 1, 0, 1, 0);
         x.show(0, 0);
         x.show(1, 1);
         due("fair ones of both questions", x.countsIn(0), 7);
@@ -389,7 +365,7 @@ public final class PromiseTest {
 
     private static void know() {
         check.about("promise 12");
-        ManyEyes x = made(3, 2, 1);
+        ManyEyes x = Rooms.made(3, 2, 1);
         due("know", x.know(0, 0, 2), 1);
         due("share of the truth", x.share(0, 0, 2), 1000000);
         due("share of another", x.share(0, 0, 0), 0);
@@ -413,7 +389,7 @@ public final class PromiseTest {
 
     private static void answer() {
         check.about("promise 13");
-        ManyEyes x = made(2, 40, 2);
+        ManyEyes x = Rooms.made(2, 40, 2);
         x.question(4, 0, 1);
         due("ticks 3", x.answer(0, 0, 0, 1, 3), 0);
         due("ticks 2", x.answer(0, 1, 0, 1, 2), 1);
@@ -452,30 +428,30 @@ public final class PromiseTest {
 
     private static void answers() {
         check.about("promise 14");
-        ManyEyes x = made(2, 8, 2);
+        ManyEyes x = Rooms.made(2, 8, 2);
         x.row(0, 0, 14);
-        put(x, 0, 0, 0, 1, 0, 1, 9, 1, 2, 0, 0, 2, 1, 3, 0, 0);
+        Rooms.put(x, 0, 0, 0, 1, 0, 1, 9, 1, 2, 0, 0, 2, 1, 3, 0, 0);
         due("two and a part", x.answers(0), 2);
         due("the first", x.how(0, 1, 0), 0);
         due("the second is hasty", x.how(1, 2, 0), 1);
         due("not the third", x.how(1, 3, 0), NONE);
         due("given already", x.answers(0), 0);
         x.row(1, 3, 15);
-        put(x, 1, 0, 0, 3, 0, 1, 9, 0, 4, 0, 2, 9, 0, 5, 0, 1, 9);
+        Rooms.put(x, 1, 0, 0, 3, 0, 1, 9, 0, 4, 0, 2, 9, 0, 5, 0, 1, 9);
         due("until one would be refused", x.answers(1), 1);
         due("not the one behind it", x.how(0, 5, 0), NONE);
         long beyond = 1L << 32;
-        put(x, 1, 0, beyond + 1, beyond + 6, -beyond, beyond + 1, beyond + 9);
+        Rooms.put(x, 1, 0, beyond + 1, beyond + 6, -beyond, beyond + 1, beyond + 9);
         due("lowest 32 bits", x.answers(1), 1);
         due("it is there", x.how(1, 6, 0), 0);
-        put(x, 1, 0, 1, 7, 0, 0, 0x80000000L);
+        Rooms.put(x, 1, 0, 1, 7, 0, 0, 0x80000000L);
         due("ticks below 0 as an int", x.answers(1), 0);
         x.row(2, 1, 4);
         due("less than one", x.answers(2), 0);
         x.row(2, 1, 0);
         due("none", x.answers(2), 0);
         x.row(2, 2, 5);
-        put(x, 2, 0, 2, 0, 0, 0, 9);
+        Rooms.put(x, 2, 0, 2, 0, 0, 0, 9);
         due("nobody", x.answers(2), 0);
         x.row(3, 0, 100);
         due("twice the same", x.answers(3), 1);
@@ -486,10 +462,10 @@ public final class PromiseTest {
         due("a judge", x.answers(5), -2);
         due("nothing", x.answers(6), -3);
         refusalsDue(x, 2, 1, 1, 0, 0, 0, 0);
-        x = made(2, 40, 1);
+        x = Rooms.made(2, 40, 1);
         x.row(0, 0, 100);
         for (int t = 0; t < 20; t++) {
-            put(x, 0, 5 * t, 0, t, 0, 0, 9);
+            Rooms.put(x, 0, 5 * t, 0, t, 0, 0, 9);
         }
         due("all of a full row", x.answers(0), 20);
         due("the next is tired", x.answer(0, 30, 0, 0, 9), 2);
@@ -497,7 +473,7 @@ public final class PromiseTest {
 
     private static void rest() {
         check.about("promise 15");
-        ManyEyes x = made(2, 40, 2);
+        ManyEyes x = Rooms.made(2, 40, 2);
         for (int t = 0; t < 20; t++) {
             x.answer(0, t, 0, 0, 0);
         }
@@ -523,11 +499,11 @@ public final class PromiseTest {
 
     private static void leave() {
         check.about("promise 16");
-        ManyEyes x = made(2, 8, 4);
-        give(x, 0, 0, 0, 0, 0, 0, 0);
+        ManyEyes x = Rooms.made(2, 8, 4);
+        Rooms.give(x, 0, 0, 0, 0, 0, 0, 0);
         x.answer(0, 7, 0, 1, 0);
-        give(x, 1, 0, 0, 0, 0, 0, 0);
-        give(x, 2, 0, 0, 0, 0, 0, 0);
+        Rooms.give(x, 1, 0, 0, 0, 0, 0, 0);
+        Rooms.give(x, 2, 0, 0, 0, 0, 0, 0);
         due("copied of the least", x.copied(2), 0);
         x.reckon(false);
         due("agreed", x.agreed(0, 0), 0);
@@ -574,11 +550,11 @@ public final class PromiseTest {
 
     private static void reckon() {
         check.about("promise 18");
-        ManyEyes x = made(2, 8, 2);
+        ManyEyes x = Rooms.made(2, 8, 2);
         due("nothing to agree on", x.reckon(false), 1);
         due("known alone", x.reckon(true), 0);
         // All SHARES are one half: all become 0, then TOP(1, 0) by BOTTOM(0) is 4/9, below 1/2.
-        give(x, 0, 0, 1, 0, 1, 0, 1, 0);
+        Rooms.give(x, 0, 0, 1, 0, 1, 0, 1, 0);
         due("by first tables", x.share(1, 0, 0), 500000);
         due("steps", x.reckon(false), 3);
         due("mended", x.agreed(1, 0), 1);
@@ -595,7 +571,7 @@ public final class PromiseTest {
         due("not agreed", x.agreed(0, 0), NONE);
         due("tables from it", x.top(0, 0, 0, 1) > 1, true);
         // Hasty answers count in nothing.
-        x = made(2, 8, 1);
+        x = Rooms.made(2, 8, 1);
         x.answer(0, 0, 0, 1, 0);
         due("hasty ones", x.reckon(false), 1);
         due("not agreed", x.agreed(0, 0), NONE);
@@ -624,7 +600,7 @@ public final class PromiseTest {
     }
 
     private static void thirtySteps() {
-        ManyEyes x = made(4, 40, RESTLESS.length);
+        ManyEyes x = Rooms.made(4, 40, RESTLESS.length);
         for (int j = 0; j < RESTLESS.length; j++) {
             for (int t = 0; t < 40; t++) {
                 if (RESTLESS[j].charAt(t) != '.') {
@@ -641,7 +617,7 @@ public final class PromiseTest {
 
     /** A step that changes one case alone isn't the last one. */
     private static void oneAlone() {
-        ManyEyes x = made(2, 3, 1);
+        ManyEyes x = Rooms.made(2, 3, 1);
         x.answer(0, 1, 0, 1, 9);
         due("one case", x.reckon(false), 2);
         due("step 0", x.changed(0), 1);
@@ -653,9 +629,9 @@ public final class PromiseTest {
 
     private static void changed() {
         check.about("promise 19");
-        ManyEyes x = made(2, 8, 1);
+        ManyEyes x = Rooms.made(2, 8, 1);
         due("ahead of all", x.changed(0), NONE);
-        give(x, 0, 0, 1, 0, 1, 0, 1, 0);
+        Rooms.give(x, 0, 0, 1, 0, 1, 0, 1, 0);
         x.reckon(false);
         due("step 0", x.changed(0), 7);
         due("step 1", x.changed(1), 3);
@@ -676,8 +652,8 @@ public final class PromiseTest {
 
     private static void agreed() {
         check.about("promise 20");
-        ManyEyes x = made(2, 8, 2);
-        give(x, 0, 0, 1, 0, 1, 0, 1, 0);
+        ManyEyes x = Rooms.made(2, 8, 2);
+        Rooms.give(x, 0, 0, 1, 0, 1, 0, 1, 0);
         due("ahead", x.agreed(1, 0), NONE);
         x.reckon(false);
         due("agreed on 0", x.agreed(0, 0), 0);
@@ -704,11 +680,11 @@ public final class PromiseTest {
 
     /** Judge 0 said 0 and 1 when it was 0, and 0 when it was 1; thing 3 is open and has 0. */
     private static ManyEyes learned() {
-        ManyEyes x = made(2, 5, 2);
+        ManyEyes x = Rooms.made(2, 5, 2);
         x.know(0, 0, 0);
         x.know(1, 0, 0);
         x.know(2, 0, 1);
-        give(x, 0, 0, 1, 0, 0);
+        Rooms.give(x, 0, 0, 1, 0, 0);
         x.reckon(true);
         return x;
     }
@@ -737,13 +713,13 @@ public final class PromiseTest {
         due("one that has left", x.top(0, 0, 0, 0), 0);
         refusalsDue(x, 0, 0, 0, 0, 0, 0, 0);
         // Tables of two questions stay apart, and answers that don't count aren't in them.
-        x = made(2, 8, 2);
+        x = Rooms.made(2, 8, 2);
         x.question(3, 0, 0);
         x.answer(0, 0, 1, 2, 9);
         x.know(0, 1, 1);
         x.know(0, 0, 1);
-        give(x, 0, 1, 1, 1, 1, 1, 1);
-        give(x, 1, 1, 1, 1, 1, 1, 1);
+        Rooms.give(x, 0, 1, 1, 1, 1, 1, 1);
+        Rooms.give(x, 1, 1, 1, 1, 1, 1, 1);
         x.reckon(true);
         due("of question 1", x.top(0, 1, 2, 1), 2);
         due("of question 0", x.top(0, 0, 1, 1), 2);
@@ -797,7 +773,7 @@ public final class PromiseTest {
 
     /** Odds of 3^23 to 1 of judges who were right in 4 of 4, three judges a batch of things. */
     private static void exactProducts() {
-        ManyEyes x = made(2, 36, 24);
+        ManyEyes x = Rooms.made(2, 36, 24);
         for (int t = 0; t < 32; t++) {
             x.know(t, 0, t % 2);
         }
@@ -845,10 +821,10 @@ public final class PromiseTest {
         due("question -1", x.leading(0, -1), NONE);
         refusalsDue(x, 0, 0, 0, 0, 0, 0, 0);
         // Of three: 1 and 2 are alike and above 0.
-        x = made(3, 4, 1);
+        x = Rooms.made(3, 4, 1);
         x.know(0, 0, 1);
         x.know(1, 0, 2);
-        give(x, 0, 2, 2, 2);
+        Rooms.give(x, 0, 2, 2, 2);
         x.reckon(true);
         due("share of 0", x.share(2, 0, 0), 250000);
         due("share of 1", x.share(2, 0, 1), 375000);
@@ -857,7 +833,7 @@ public final class PromiseTest {
 
     private static void isOpen() {
         check.about("promise 25, OPEN");
-        ManyEyes x = made(2, 2, 1);
+        ManyEyes x = Rooms.made(2, 2, 1);
         x.question(3, 0, 1);
         x.question(2, 1, 2);
         x.question(2, 0, 0);
@@ -886,7 +862,7 @@ public final class PromiseTest {
 
     private static void isEnded() {
         check.about("promise 25, ENDED");
-        ManyEyes x = made(2, 8, 14);
+        ManyEyes x = Rooms.made(2, 8, 14);
         due("without an answer", x.is(1, 0, 0), false);
         x.bar(0, 500);
         due("answers must count", x.is(1, 0, 0), false);
@@ -914,7 +890,7 @@ public final class PromiseTest {
         x.know(1, 0, 1);
         due("known without an answer", x.is(1, 1, 0), true);
         // A mark that is met exactly: 9 of 10.
-        x = made(2, 18, 1);
+        x = Rooms.made(2, 18, 1);
         for (int t = 0; t < 16; t++) {
             x.know(t, 0, t / 8);
             x.answer(0, t, 0, t / 8, 9);
@@ -931,7 +907,7 @@ public final class PromiseTest {
 
     private static void isKnown() {
         check.about("promise 25, KNOWN");
-        ManyEyes x = made(2, 2, 2);
+        ManyEyes x = Rooms.made(2, 2, 2);
         due("not known", x.is(2, 0, 0), false);
         x.know(0, 0, 0);
         due("known", x.is(2, 0, 0), true);
@@ -957,10 +933,10 @@ public final class PromiseTest {
 
     private static void looks() {
         check.about("promise 26");
-        ManyEyes x = made(2, 40, 3);
+        ManyEyes x = Rooms.made(2, 40, 3);
         due("none", x.looks(0, 0), 0);
-        give(x, 0, 0, 1, 0, 1, 0, 1);
-        give(x, 1, 0, 1, 0, 1, 0);
+        Rooms.give(x, 0, 0, 1, 0, 1, 0, 1);
+        Rooms.give(x, 1, 0, 1, 0, 1, 0);
         due("two", x.looks(0, 0), 2);
         x.answer(1, 5, 0, 1, 9);
         due("one of them is copied now", x.looks(0, 0), 1);
@@ -985,10 +961,10 @@ public final class PromiseTest {
 
     private static void how() {
         check.about("promise 27");
-        ManyEyes x = made(2, 40, 2);
-        give(x, 0, 0, 1, 0, 1, 0, 1);
+        ManyEyes x = Rooms.made(2, 40, 2);
+        Rooms.give(x, 0, 0, 1, 0, 1, 0, 1);
         x.answer(0, 6, 0, 1, 0);
-        give(x, 1, 0, 1, 0, 1, 0, 1);
+        Rooms.give(x, 1, 0, 1, 0, 1, 0, 1);
         x.answer(1, 6, 0, 1, 9);
         x.answer(1, 7, 0, 1, 9);
         due("it counts", x.how(0, 0, 0), 0);
@@ -1020,9 +996,9 @@ public final class PromiseTest {
 
     private static void copied() {
         check.about("promise 28");
-        ManyEyes x = made(2, 12, 4);
-        give(x, 1, 0, 1, 0, 1, 0);
-        give(x, 2, 0, 1, 0, 1, 0);
+        ManyEyes x = Rooms.made(2, 12, 4);
+        Rooms.give(x, 1, 0, 1, 0, 1, 0);
+        Rooms.give(x, 2, 0, 1, 0, 1, 0);
         due("5 alike", x.copied(2), NONE);
         x.answer(1, 5, 0, 1, 9);
         x.answer(2, 5, 0, 1, 1);
@@ -1033,7 +1009,7 @@ public final class PromiseTest {
         due("6 alike", x.copied(2), 1);
         due("not the earlier one", x.copied(1), NONE);
         // 0 comes late, and is the least of two.
-        give(x, 0, 0, 1, 0, 1, 0, 1, 1);
+        Rooms.give(x, 0, 0, 1, 0, 1, 0, 1, 1);
         due("the least", x.copied(2), 0);
         due("it too", x.copied(1), 0);
         // One that differs ends it, and for good.
@@ -1050,7 +1026,7 @@ public final class PromiseTest {
         due("judge -1", x.copied(-1), NONE);
         refusalsDue(x, 0, 0, 0, 0, 0, 0, 0);
         // Cases of more than one question are all CASES.
-        x = made(2, 3, 2);
+        x = Rooms.made(2, 3, 2);
         x.question(2, 0, 0);
         for (int j = 0; j < 2; j++) {
             for (int t = 0; t < 3; t++) {
@@ -1079,10 +1055,10 @@ public final class PromiseTest {
         due("one that has left", x.next(1), -1);
         refusalsDue(x, 3, 0, 0, 0, 0, 0, 0);
         // The greatest GAIN: a judge who was right, at the thing of which nothing is said.
-        x = made(2, 6, 2);
+        x = Rooms.made(2, 6, 2);
         x.know(0, 0, 0);
         x.know(1, 0, 1);
-        give(x, 0, 0, 1, 0);
+        Rooms.give(x, 0, 0, 1, 0);
         x.answer(1, 0, 0, 0, 9);
         x.answer(1, 1, 0, 1, 9);
         x.reckon(true);
@@ -1108,7 +1084,7 @@ public final class PromiseTest {
 
     /** Two judges who are good at questions 1 and 2; one has answered question 1 of thing 1. */
     private static void nextOfTwoChildren() {
-        ManyEyes x = made(2, 4, 2);
+        ManyEyes x = Rooms.made(2, 4, 2);
         x.question(2, 0, 0);
         x.question(2, 0, 0);
         for (int t = 1; t < 4; t++) {
@@ -1152,7 +1128,7 @@ public final class PromiseTest {
         due("one that has left", x.gain(0, 3, 0), NONE);
         refusalsDue(x, 0, 0, 0, 0, 0, 0, 0);
         // An exact one: 8 and 8 of 8 right is 9/10; less 1/2.
-        x = made(2, 17, 1);
+        x = Rooms.made(2, 17, 1);
         for (int t = 0; t < 16; t++) {
             x.know(t, 0, t / 8);
             x.answer(0, t, 0, t / 8, 9);
@@ -1177,7 +1153,7 @@ public final class PromiseTest {
         due("no question", x.total(3, 0), NONE);
         due("question -1", x.total(-1, 0), NONE);
         refusalsDue(x, 0, 0, 0, 0, 0, 0, 0);
-        x = made(3, 3, 1);
+        x = Rooms.made(3, 3, 1);
         due("three thirds", x.total(0, 0), 1000);
         x.things(37);
         due("forty thirds", x.total(0, 2), 13333);
@@ -1186,15 +1162,15 @@ public final class PromiseTest {
         }
         due("forty", x.total(0, 1), 40000);
         due("none", x.total(0, 0), 0);
-        due("without things", made(2, 0, 0).total(0, 0), 0);
+        due("without things", Rooms.made(2, 0, 0).total(0, 0), 0);
     }
 
     private static void status() {
         check.about("promise 32");
-        ManyEyes x = made(2, 8, 3);
+        ManyEyes x = Rooms.made(2, 8, 3);
         x.question(2, 0, 0);
-        give(x, 0, 0, 0, 0, 0, 0, 0);
-        give(x, 1, 0, 0, 0, 0, 0, 0);
+        Rooms.give(x, 0, 0, 0, 0, 0, 0, 0);
+        Rooms.give(x, 1, 0, 0, 0, 0, 0, 0);
         x.answer(2, 6, 0, 0, 0);
         x.answer(2, 5, 0, 0, 9);
         x.know(7, 0, 0);
